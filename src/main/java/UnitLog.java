@@ -274,6 +274,7 @@ public final class UnitLog {
         return true;
     }
 
+    /** Who appends has looked for room before, so that it is the disk alone that can fail here. */
     private boolean openNext() {
         int next = lowestFree();
         if (next == NOWHERE || !saveUnits()) {
