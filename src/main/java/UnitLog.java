@@ -282,7 +282,6 @@ public final class UnitLog {
         }
         states[open] = CLOSED;
         states[next] = OPEN;
-        records.forgetSegment(next);
         open = next;
         fill = 0;
         saved = 0;
@@ -443,9 +442,12 @@ public final class UnitLog {
         }
     }
 
-    /** The records of all segments, each under the place where it begins: 16 * segment + unit. */
+    /**
+     * The records of all segments, each under the place where it begins: 16 * segment + unit. What a free segment
+     * held may stay: none of its serials is above that of the checkpoint made when it became free.
+     */
     private static final class Records {
-        // 0 where no record begins.
+        // 0 where no record has begun yet, or where it was lost.
         private final int[] serials;
         private final int[] blocks;
         private final int[] units;
@@ -469,13 +471,6 @@ public final class UnitLog {
                 }
             }
             return NOWHERE;
-        }
-
-        void forgetSegment(int segment) {
-            int begin = segment * SEGMENT_UNITS;
-            for (int at = begin; at < begin + SEGMENT_UNITS; at++) {
-                serials[at] = 0;
-            }
         }
 
         /** Serials are given again after a recovery, so a lost record must not be found under its own. */
