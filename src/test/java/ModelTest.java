@@ -1,6 +1,6 @@
 import java.util.Random;
 
-/** Runs of 512 calls, drawn from fixed seeds, answered by UnitLog as by the model. */
+/** Runs of up to 512 calls, drawn from fixed seeds, answered by UnitLog as by the model. */
 public final class ModelTest {
     private static final int CALLS = 512;
     private static final int RUNS = 4000;

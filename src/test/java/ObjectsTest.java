@@ -3,7 +3,8 @@ import java.lang.management.ManagementFactory;
 /** A run lives in one room: an object is small, and its calls make none. */
 public final class ObjectsTest {
     private static final int OBJECTS = 100;
-    private static final int CALLS = 512;
+    // One step in sixteen makes three calls: 504 in all, within the 512 that an object is used for.
+    private static final int STEPS = 448;
     private static final com.sun.management.ThreadMXBean THREADS =
             (com.sun.management.ThreadMXBean) ManagementFactory.getThreadMXBean();
 
@@ -22,9 +23,9 @@ public final class ObjectsTest {
         }
         long used = allocated() - begin;
         System.out.println(made / OBJECTS + " bytes an object, " + used + " bytes by "
-                + OBJECTS * CALLS + " calls (sum " + sum + ")");
-        // A byte for each call would be an object in some of them; what the JVM makes of its own stays far below.
-        if (made / OBJECTS > 8000 || used >= OBJECTS * CALLS) {
+                + OBJECTS * STEPS + " steps (sum " + sum + ")");
+        // A byte for each step would be an object in some of them; what the JVM makes of its own stays far below.
+        if (made / OBJECTS > 8000 || used >= OBJECTS * STEPS) {
             System.exit(1);
         }
     }
@@ -35,7 +36,7 @@ public final class ObjectsTest {
 
     private static long use(UnitLog log) {
         long sum = 0;
-        for (int n = 0; n < CALLS; n++) {
+        for (int n = 0; n < STEPS; n++) {
             sum += call(log, n);
         }
         return sum;
