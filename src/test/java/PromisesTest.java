@@ -1,738 +1,1090 @@
-/** Each promise by itself: ordinary inputs, the edges that the document names, and wrong inputs. */
-public final class PromisesTest {
-    private static final Check CHECK = new Check();
-    private static final int BAD = UnitLog.BAD;
-    private static final int NONE = UnitLog.NONE;
-    private static final int ROOM = UnitLog.ROOM;
-    private static final int DOWN = UnitLog.DOWN;
-    private static final int[] WRONG = {-1, 16, Integer.MIN_VALUE, Integer.MAX_VALUE};
-    // No three bytes of it stand twice: a STORE record of these takes 6 units.
-    private static final long PLAIN_HIGH = 0x0001020304050607L;
-    private static final long PLAIN_LOW = 0x08090a0b0c0d0e0fL;
+/** Promises 1 to 8 and 10 to 16: each sentence has a test of its own; CleanTest has promise 9. */
+public final class PromisesTest extends LogSteps {
+    private static final int[] NO_SEGMENTS = {-1, 4, 8, Integer.MIN_VALUE, Integer.MAX_VALUE};
 
     public static void main(String[] args) {
         newObject();
         write();
-        writeWithoutRoom();
-        writeGoesDown();
         trim();
-        trimWithoutRoomOrDown();
-        read();
-        packed();
-        place();
-        flush();
-        checkpoint();
-        clean();
-        cleanChoosesAndOrders();
-        cleanWithoutRoom();
-        cleanGoesDown();
-        arm();
-        disarm();
-        crash();
+        readPackedPlace();
+        flushAndCheckpoint();
+        armDisarmCrash();
         recover();
-        recoverRollsForward();
-        recoverGivesSerialsAgain();
-        live();
-        segment();
+        liveAndSegment();
         look();
-        whileDown();
         CHECK.end();
     }
 
-    /** Six units. */
-    private static int plain(UnitLog log, int block) {
-        return log.write(block, PLAIN_HIGH, PLAIN_LOW);
-    }
-
-    /** Three units. */
-    private static int zeros(UnitLog log, int block) {
-        return log.write(block, 0, 0);
-    }
-
-    /** Four units. */
-    private static int four(UnitLog log, int block) {
-        return log.write(block, 0, 0x0102);
-    }
-
-    /** Fills the open segment from unit 0 to unit 16: four records of four units. */
-    private static void fillSegment(UnitLog log, int block) {
-        for (int i = 0; i < 4; i++) {
-            CHECK.due("filling", four(log, block + i), 4);
-        }
-    }
-
-    private static void looks(UnitLog log, String at, int fill, int saved, int serial, int number, int written) {
-        CHECK.due(at + ": FILL", log.look(0), fill);
-        CHECK.due(at + ": SAVED", log.look(1), saved);
-        CHECK.due(at + ": serial", log.look(2), serial);
-        CHECK.due(at + ": checkpoint", log.look(3), number);
-        CHECK.due(at + ": written", log.look(4), written);
-    }
-
-    private static void states(UnitLog log, String at, int... want) {
-        for (int s = 0; s < want.length; s++) {
-            CHECK.due(at + ": segment(" + s + ")", log.segment(s), want[s]);
-        }
-        CHECK.due(at + ": segment(" + want.length + ")", log.segment(want.length), BAD);
-    }
-
-    private static void lives(UnitLog log, String at, int... want) {
-        for (int s = 0; s < want.length; s++) {
-            CHECK.due(at + ": live(" + s + ")", log.live(s), want[s]);
-        }
-    }
-
     private static void newObject() {
-        int[] wanted = {Integer.MIN_VALUE, -1, 0, 3, 4, 5, 6, 7, 8, 9, Integer.MAX_VALUE};
-        int[] counts = {4, 4, 4, 4, 4, 5, 6, 7, 8, 8, 8};
-        for (int i = 0; i < wanted.length; i++) {
-            UnitLog log = new UnitLog(wanted[i]);
-            int[] want = new int[counts[i]];
-            want[0] = 1;
-            states(log, "new " + wanted[i], want);
-            lives(log, "new " + wanted[i], new int[counts[i]]);
-            looks(log, "new " + wanted[i], 0, 0, 0, 0, 0);
-            CHECK.due("new: armed", log.look(5), -1);
-            CHECK.due("new: down", log.look(6), 0);
-            for (int block = 0; block < 16; block++) {
-                CHECK.due("new: place(" + block + ")", log.place(block), NONE);
-                CHECK.due("new: packed(" + block + ", -1)", log.packed(block, -1), NONE);
-                CHECK.due("new: read(" + block + ", 0)", log.read(block, 0), 0);
-            }
-        }
-        UnitLog log = new UnitLog(4);
-        zeros(log, 0);
-        log.crash();
-        CHECK.due("checkpoint 0 is all there is", log.recover(), 0);
-        looks(log, "checkpoint 0", 0, 0, 0, 1, 20);
-        CHECK.due("absent again", log.place(0), NONE);
-        states(log, "checkpoint 0", 1, 0, 0, 0);
+        sentence("1: A new store with that many segments", PromisesTest::thatManySegments);
+        sentence("1: 4 if fewer", PromisesTest::fourIfFewer);
+        sentence("1: 8 if more", PromisesTest::eightIfMore);
+        sentence("1: all blocks absent", PromisesTest::allBlocksAbsent);
+        sentence("1: segment 0 open, the others free", PromisesTest::segmentZeroOpen);
+        sentence("1: nothing written but checkpoint 0", PromisesTest::nothingWritten);
+        sentence("1: not armed, not down", PromisesTest::notArmedNotDown);
     }
 
     private static void write() {
-        UnitLog log = new UnitLog(4);
-        for (int block : WRONG) {
-            CHECK.due("write(" + block + ")", log.write(block, 1, 1), BAD);
-        }
-        looks(log, "nothing was appended", 0, 0, 0, 0, 0);
-        CHECK.due("write(0)", plain(log, 0), 6);
-        CHECK.due("write(15)", zeros(log, 15), 3);
-        CHECK.due("write(0) again", log.write(0, Long.MIN_VALUE, Long.MAX_VALUE), 4);
-        looks(log, "not on the disk yet", 13, 0, 3, 0, 0);
-        CHECK.due("highest byte", log.packed(0, 1), 128);
-        CHECK.due("the latest counts, high", log.read(0, 0), Long.MIN_VALUE);
-        CHECK.due("the latest counts, low", log.read(0, 1), Long.MAX_VALUE);
-        CHECK.due("its place", log.place(0), 9);
-        CHECK.due("more than 16 - FILL", four(log, 3), 4);
-        CHECK.due("in the next segment", log.place(3), 16);
-        looks(log, "next segment", 4, 0, 4, 0, 13);
-        states(log, "next segment", 2, 1, 0, 0);
-        lives(log, "next segment", 7, 4, 0, 0);
-    }
-
-    private static void writeWithoutRoom() {
-        UnitLog log = new UnitLog(4);
-        fillSegment(log, 0);
-        looks(log, "full, still open", 16, 0, 4, 0, 0);
-        states(log, "full, still open", 1, 0, 0, 0);
-        fillSegment(log, 4);
-        plain(log, 8);
-        plain(log, 9);
-        CHECK.due("more than 16 - FILL, one segment free", plain(log, 10), ROOM);
-        CHECK.due("BAD before ROOM", plain(log, 16), BAD);
-        looks(log, "nothing was done", 12, 0, 10, 0, 32);
-        CHECK.due("just 16 - FILL, one segment free", four(log, 10), 4);
-        CHECK.due("nothing is left", zeros(log, 11), ROOM);
-        CHECK.due("nor to write over", zeros(log, 0), ROOM);
-        CHECK.due("absent still", log.place(11), NONE);
-        CHECK.due("as it was", log.place(0), 0);
-        states(log, "one is kept free", 2, 2, 1, 0);
-    }
-
-    private static void writeGoesDown() {
-        UnitLog log = new UnitLog(4);
-        fillSegment(log, 0);
-        log.arm(15);
-        CHECK.due("the 16th unit fails", four(log, 4), DOWN);
-        CHECK.due("written", log.look(4), 15);
-        CHECK.due("armed with", log.look(5), 0);
-        CHECK.due("down", log.look(6), 1);
-        CHECK.due("three were whole", log.recover(), 3);
-        looks(log, "behind the third", 12, 12, 3, 1, 35);
-        CHECK.due("the fourth is lost", log.place(3), NONE);
-        CHECK.due("the fifth was never appended", log.place(4), NONE);
-        states(log, "one open", 1, 0, 0, 0);
-        log.arm(4);
-        four(log, 3);
-        CHECK.due("no unit is to be written", log.look(6), 0);
-        CHECK.due("just enough", four(log, 4), 4);
-        CHECK.due("used up, but not down", log.look(5), 0);
-        CHECK.due("not down", log.look(6), 0);
+        sentence("2: bytes 0 .. 7 of the block are those of high, the highest first", PromisesTest::bytesOfHigh);
+        sentence("2: bytes 8 .. 15 those of low", PromisesTest::bytesOfLow);
+        sentence("2: how many units it takes", PromisesTest::writeTakesUnits);
+        sentence("2: DOWN", PromisesTest::writeWhileDown);
+        sentence("2: BAD: block isn't 0 .. 15", PromisesTest::writeBadBlock);
+        sentence("2: ROOM: it needs more than 16 - FILL units", PromisesTest::writeNeedsMore);
+        sentence("2: and only one segment is free", PromisesTest::writeWithOneFree);
+        sentence("2: or none, is free", PromisesTest::writeWithNoneFree);
+        sentence("2: ROOM is a refusal", PromisesTest::writeRefusedDoesNothing);
+        sentence("2: DOWN, if the store goes down", PromisesTest::writeGoesDown);
     }
 
     private static void trim() {
-        UnitLog log = new UnitLog(4);
-        for (int block : WRONG) {
-            CHECK.due("trim(" + block + ")", log.trim(block), BAD);
-        }
-        CHECK.due("trim of an absent one", log.trim(0), NONE);
-        looks(log, "nothing was appended", 0, 0, 0, 0, 0);
-        zeros(log, 0);
-        plain(log, 15);
-        CHECK.due("trim(15)", log.trim(15), 2);
-        CHECK.due("trim(15) again", log.trim(15), NONE);
-        looks(log, "trimmed", 11, 0, 3, 0, 0);
-        CHECK.due("absent", log.place(15), NONE);
-        CHECK.due("read", log.read(15, 1), 0);
-        CHECK.due("a TRIM record has no live units", log.live(0), 3);
-        CHECK.due("written again", zeros(log, 15), 3);
-        CHECK.due("behind the TRIM record", log.place(15), 11);
-        CHECK.due("just 16 - FILL", log.trim(0), 2);
-        CHECK.due("FILL", log.look(0), 16);
-        CHECK.due("in the next segment", log.trim(15), 2);
-        looks(log, "next segment", 2, 0, 6, 0, 16);
-        states(log, "next segment", 2, 1, 0, 0);
-        lives(log, "next segment", 0, 0, 0, 0);
-        CHECK.due("saved", log.flush(), 2);
-        log.crash();
-        CHECK.due("all rolled forward", log.recover(), 6);
-        CHECK.due("trimmed on the disk too", log.place(15), NONE);
-        states(log, "nothing live", 0, 1, 0, 0);
+        sentence("3: Appends a TRIM record: 2", PromisesTest::trimAppends);
+        sentence("3: DOWN", PromisesTest::trimWhileDown);
+        sentence("3: BAD: block isn't 0 .. 15", PromisesTest::trimBadBlock);
+        sentence("3: NONE: it is absent", PromisesTest::trimAbsent);
+        sentence("3: ROOM as with write", PromisesTest::trimWithoutRoom);
+        sentence("3: DOWN, if the store goes down", PromisesTest::trimGoesDown);
     }
 
-    private static void trimWithoutRoomOrDown() {
+    private static void readPackedPlace() {
+        sentence("4: Bytes 0 .. 7 (half 0) or 8 .. 15 (half 1) of a block, the first one highest", PromisesTest::readHalves);
+        sentence("4: 0 if it is absent", PromisesTest::readAbsent);
+        sentence("4: 0 if DOWN", PromisesTest::readWhileDown);
+        sentence("4: 0 if block isn't one", PromisesTest::readBadBlock);
+        sentence("4: 0 if half isn't one", PromisesTest::readBadHalf);
+        sentence("5: Byte k (from 0) of the stored form of a block: 0 .. 255", PromisesTest::packedBytes);
+        sentence("5: with k = -1 how many it has", PromisesTest::packedHowMany);
+        sentence("5: DOWN", PromisesTest::packedWhileDown);
+        sentence("5: BAD: block isn't 0 .. 15", PromisesTest::packedBadBlock);
+        sentence("5: or there is no such byte", PromisesTest::packedNoSuchByte);
+        sentence("5: NONE: it is absent (tested before k)", PromisesTest::packedAbsent);
+        sentence("6: 16 * segment + unit, where the latest record of a block begins", PromisesTest::placeOfLatest);
+        sentence("6: DOWN", PromisesTest::placeWhileDown);
+        sentence("6: BAD: block isn't 0 .. 15", PromisesTest::placeBadBlock);
+        sentence("6: NONE: it is absent", PromisesTest::placeAbsent);
+    }
+
+    private static void flushAndCheckpoint() {
+        sentence("7: Saves: how many units were written", PromisesTest::flushSaves);
+        sentence("7: DOWN", PromisesTest::flushWhileDown);
+        sentence("7: also if the store goes down", PromisesTest::flushGoesDown);
+        sentence("8: Makes a checkpoint: its number", PromisesTest::checkpointNumber);
+        sentence("8: DOWN", PromisesTest::checkpointWhileDown);
+        sentence("8: also if the store goes down", PromisesTest::checkpointGoesDown);
+    }
+
+    private static void armDisarmCrash() {
+        sentence("10: Arms the disk with n", PromisesTest::armWithN);
+        sentence("10: false if it is DOWN", PromisesTest::armWhileDown);
+        sentence("10: or n isn't 0 .. 10000", PromisesTest::armBadNumber);
+        sentence("11: The disk isn't armed any more", PromisesTest::disarmed);
+        sentence("11: false if it is DOWN", PromisesTest::disarmWhileDown);
+        sentence("11: or it wasn't armed", PromisesTest::disarmNotArmed);
+        sentence("12: The store is down from now on", PromisesTest::crashGoesDown);
+        sentence("12: false if it is DOWN", PromisesTest::crashWhileDown);
+    }
+
+    private static void recover() {
+        sentence("13: The disk isn't armed any more", PromisesTest::recoverDisarms);
+        sentence("13: how many records were rolled forward", PromisesTest::recoverCounts);
+        sentence("13: BAD if the store isn't down", PromisesTest::recoverNotDown);
+    }
+
+    private static void liveAndSegment() {
+        sentence("14: How many live units a segment has", PromisesTest::liveUnits);
+        sentence("14: DOWN", PromisesTest::liveWhileDown);
+        sentence("14: BAD if there is no such segment", PromisesTest::liveNoSuchSegment);
+        sentence("15: 0 FREE, 1 OPEN, 2 CLOSED", PromisesTest::segmentStates);
+        sentence("15: DOWN", PromisesTest::segmentWhileDown);
+        sentence("15: BAD if there is no such segment", PromisesTest::segmentNoSuchSegment);
+    }
+
+    private static void look() {
+        sentence("16: what 0 FILL", PromisesTest::lookFill);
+        sentence("16: 1 SAVED", PromisesTest::lookSaved);
+        sentence("16: 2 the serial of the latest record, 0 if there was none", PromisesTest::lookSerial);
+        sentence("16: 3 the number of the latest checkpoint that counts", PromisesTest::lookCheckpoint);
+        sentence("16: (these four are DOWN while the store is down)", PromisesTest::lookWhileDown);
+        sentence("16: 4 how many units were written since the beginning (checkpoint 0 not)", PromisesTest::lookWritten);
+        sentence("16: 5 with how many the disk is armed, -1 if it isn't", PromisesTest::lookArmed);
+        sentence("16: 6 whether the store is down, 1 or 0", PromisesTest::lookDown);
+        sentence("16: BAD if what is another number", PromisesTest::lookAnother);
+    }
+
+    /** A store that is down, with two records on the disk, block 0 there and block 1 trimmed in memory alone. */
+    private static UnitLog down() {
         UnitLog log = new UnitLog(4);
-        for (int i = 0; i < 12; i++) {
-            four(log, i);
+        six(log, 0);
+        three(log, 1);
+        log.flush();
+        log.trim(1);
+        CHECK.due("crash", log.crash(), true);
+        return log;
+    }
+
+    // Promise 1
+
+    private static void segments(int wanted, int count) {
+        UnitLog log = new UnitLog(wanted);
+        for (int s = 0; s < count; s++) {
+            CHECK.due("new " + wanted + ": segment(" + s + ")", log.segment(s), s == 0 ? OPEN : FREE);
+            CHECK.due("new " + wanted + ": live(" + s + ")", log.live(s), 0);
         }
-        CHECK.due("no room", log.trim(0), ROOM);
-        CHECK.due("NONE before ROOM", log.trim(12), NONE);
+        CHECK.due("new " + wanted + ": segment(" + count + ")", log.segment(count), BAD);
+        CHECK.due("new " + wanted + ": live(" + count + ")", log.live(count), BAD);
+        for (int s = 0; s < count - 1; s++) {
+            fillSegment(log, 4 * (s % 4));
+        }
+        CHECK.due("new " + wanted + ": all but one full", three(log, 0), ROOM);
+    }
+
+    private static void thatManySegments() {
+        segments(4, 4);
+        segments(5, 5);
+        segments(6, 6);
+        segments(7, 7);
+        segments(8, 8);
+    }
+
+    private static void fourIfFewer() {
+        segments(3, 4);
+        segments(1, 4);
+        segments(0, 4);
+        segments(-1, 4);
+        segments(Integer.MIN_VALUE, 4);
+    }
+
+    private static void eightIfMore() {
+        segments(9, 8);
+        segments(100, 8);
+        segments(Integer.MAX_VALUE, 8);
+    }
+
+    private static void allBlocksAbsent() {
+        UnitLog log = new UnitLog(4);
+        for (int block = 0; block < 16; block++) {
+            absent(log, "new", block);
+        }
+    }
+
+    private static void segmentZeroOpen() {
+        states(new UnitLog(4), "new", OPEN, FREE, FREE, FREE);
+        states(new UnitLog(8), "new", OPEN, FREE, FREE, FREE, FREE, FREE, FREE, FREE);
+        UnitLog log = new UnitLog(4);
+        three(log, 0);
+        CHECK.due("the first record", log.place(0), 0);
+    }
+
+    private static void nothingWritten() {
+        UnitLog log = new UnitLog(4);
+        looks(log, "new", 0, 0, 0, 0, 0);
+        log.crash();
+        CHECK.due("checkpoint 0 can be looked at", log.recover(), 0);
+        looks(log, "recovered", 0, 0, 0, 1, 20);
+        states(log, "recovered", OPEN, FREE, FREE, FREE);
+        absent(log, "recovered", 0, 15);
+    }
+
+    private static void notArmedNotDown() {
+        UnitLog log = new UnitLog(4);
+        CHECK.due("armed", log.look(5), -1);
+        CHECK.due("down", log.look(6), 0);
+        CHECK.due("disarm", log.disarm(), false);
+        CHECK.due("recover", log.recover(), BAD);
+        CHECK.due("checkpoint", log.checkpoint(), 1);
+    }
+
+    // Promise 2
+
+    private static void bytesOfHigh() {
+        UnitLog log = new UnitLog(4);
+        six(log, 0);
+        for (int k = 0; k < 8; k++) {
+            CHECK.due("byte " + k, log.packed(0, k), k);
+        }
+        log.write(0, Long.MIN_VALUE, 0);
+        CHECK.due("the highest byte", log.packed(0, 1), 128);
+        CHECK.due("high", log.read(0, 0), Long.MIN_VALUE);
+        log.write(0, -1, 0);
+        CHECK.due("all bytes 255", log.packed(0, 1), 255);
+    }
+
+    private static void bytesOfLow() {
+        UnitLog log = new UnitLog(4);
+        six(log, 0);
+        for (int k = 8; k < 16; k++) {
+            CHECK.due("byte " + k, log.packed(0, k), k);
+        }
+        log.write(0, 0, Long.MAX_VALUE);
+        CHECK.due("low", log.read(0, 1), Long.MAX_VALUE);
+        log.write(0, 0, -2);
+        CHECK.due("low", log.read(0, 1), -2);
+    }
+
+    private static void writeTakesUnits() {
+        UnitLog log = new UnitLog(4);
+        CHECK.due("three", three(log, 0), 3);
+        CHECK.due("four", four(log, 1), 4);
+        CHECK.due("five", five(log, 2), 5);
+        CHECK.due("FILL", log.look(0), 12);
+        CHECK.due("six, in the next segment", six(log, 3), 6);
+        CHECK.due("the same again", six(log, 3), 6);
+        looks(log, "appended", 12, 0, 5, 0, 12);
+    }
+
+    private static void writeWhileDown() {
+        UnitLog log = down();
+        CHECK.due("a block", six(log, 0), DOWN);
+        CHECK.due("no block", six(log, 16), DOWN);
+        CHECK.due("no block", six(log, -1), DOWN);
+        CHECK.due("written", log.look(4), 9);
+        CHECK.due("as on the disk", log.recover(), 2);
+        log = oneFree();
+        log.crash();
+        CHECK.due("where there was no room", six(log, 0), DOWN);
+    }
+
+    private static void writeBadBlock() {
+        UnitLog log = new UnitLog(4);
+        six(log, 0);
+        String before = all(log);
+        for (int block : NO_BLOCKS) {
+            CHECK.due("write(" + block + ")", three(log, block), BAD);
+        }
+        CHECK.due("nothing was done", all(log), before);
+        CHECK.due("write(0)", three(log, 0), 3);
+        CHECK.due("write(15)", three(log, 15), 3);
+        log = noneFree();
+        six(log, 12);
+        six(log, 13);
+        CHECK.due("no room", three(log, 0), ROOM);
+        CHECK.due("BAD before ROOM", three(log, 16), BAD);
+        CHECK.due("BAD before ROOM", three(log, -1), BAD);
+    }
+
+    private static void writeNeedsMore() {
+        UnitLog log = oneFree();
+        six(log, 9);
+        CHECK.due("FILL", log.look(0), 9);
+        CHECK.due("7 are left: 4", four(log, 10), 4);
+        CHECK.due("3 are left: 4", four(log, 11), ROOM);
+        CHECK.due("3 are left: 6", six(log, 11), ROOM);
+        CHECK.due("3 are left: 3", three(log, 11), 3);
+        CHECK.due("FILL", log.look(0), 16);
+        CHECK.due("0 are left: 3", three(log, 12), ROOM);
+        CHECK.due("there", log.place(11), 45);
+    }
+
+    private static void writeWithOneFree() {
+        UnitLog log = new UnitLog(4);
+        fillSegment(log, 0);
+        CHECK.due("three are free", three(log, 4), 3);
+        six(log, 5);
+        four(log, 6);
+        CHECK.due("two are free", four(log, 7), 4);
+        CHECK.due("the third segment", log.place(7), 32);
+        six(log, 8);
+        CHECK.due("one is free, and there is room", five(log, 9), 5);
+        states(log, "one is free", CLOSED, CLOSED, OPEN, FREE);
+        CHECK.due("one is free", three(log, 10), ROOM);
+        CHECK.due("a block that is there", three(log, 0), ROOM);
+    }
+
+    private static void writeWithNoneFree() {
+        UnitLog log = noneFree();
+        CHECK.due("there is room", six(log, 12), 6);
+        CHECK.due("just enough", six(log, 13), 6);
+        CHECK.due("FILL", log.look(0), 16);
+        CHECK.due("none is free", three(log, 0), ROOM);
+        CHECK.due("none is free", six(log, 14), ROOM);
+    }
+
+    private static void writeRefusedDoesNothing() {
+        UnitLog log = oneFree();
+        six(log, 9);
+        six(log, 9);
+        log.arm(0);
+        String before = all(log);
+        CHECK.due("no room, and a disk that would fail", four(log, 0), ROOM);
+        CHECK.due("nothing was done", all(log), before);
+        CHECK.due("not saved either", log.look(4), 32);
+    }
+
+    private static void writeGoesDown() {
+        for (int n = 0; n <= 16; n++) {
+            UnitLog log = new UnitLog(4);
+            fillSegment(log, 0);
+            log.arm(n);
+            CHECK.due("armed with " + n, six(log, 4), n < 16 ? DOWN : 6);
+            CHECK.due("armed with " + n + ": down", log.look(6), n < 16 ? 1 : 0);
+            CHECK.due("armed with " + n + ": written", log.look(4), n);
+            log.crash();
+            CHECK.due("armed with " + n + ": whole", log.recover(), n / 4);
+            absent(log, "armed with " + n, 4);
+            states(log, "armed with " + n, OPEN, FREE, FREE, FREE);
+            CHECK.due("armed with " + n + ": FILL", log.look(0), n / 4 * 4);
+        }
+    }
+
+    // Promise 3
+
+    private static void trimAppends() {
+        UnitLog log = new UnitLog(4);
+        six(log, 0);
+        three(log, 15);
+        CHECK.due("trim(15)", log.trim(15), 2);
+        CHECK.due("trim(0)", log.trim(0), 2);
+        looks(log, "two TRIM records", 13, 0, 4, 0, 0);
+        absent(log, "trimmed", 0, 15);
+        CHECK.due("no live units", log.live(0), 0);
+        CHECK.due("written again, behind the TRIM records", three(log, 15), 3);
+        CHECK.due("place", log.place(15), 13);
+        CHECK.due("in the next segment", log.trim(15), 2);
+        looks(log, "in the next segment", 2, 0, 6, 0, 16);
+        log.flush();
+        log.crash();
+        CHECK.due("on the disk", log.recover(), 6);
+        absent(log, "trimmed", 0, 15);
+    }
+
+    private static void trimWhileDown() {
+        UnitLog log = down();
+        CHECK.due("a block", log.trim(0), DOWN);
+        CHECK.due("an absent one", log.trim(5), DOWN);
+        CHECK.due("no block", log.trim(16), DOWN);
+        CHECK.due("as on the disk", log.recover(), 2);
+        CHECK.due("there", log.place(0), 0);
+    }
+
+    private static void trimBadBlock() {
+        UnitLog log = oneFree();
+        String before = all(log);
+        for (int block : NO_BLOCKS) {
+            CHECK.due("trim(" + block + ")", log.trim(block), BAD);
+        }
+        CHECK.due("nothing was done", all(log), before);
+        log = noneFree();
+        six(log, 12);
+        six(log, 13);
         CHECK.due("BAD before ROOM", log.trim(16), BAD);
-        CHECK.due("as it was", log.place(0), 0);
-        looks(log, "nothing was done", 16, 0, 12, 0, 32);
+    }
+
+    private static void trimAbsent() {
+        UnitLog log = new UnitLog(4);
+        CHECK.due("never written", log.trim(0), NONE);
+        three(log, 0);
+        CHECK.due("its neighbour", log.trim(1), NONE);
+        CHECK.due("there", log.trim(0), 2);
+        CHECK.due("trimmed", log.trim(0), NONE);
+        looks(log, "one TRIM record", 5, 0, 2, 0, 0);
+        log = noneFree();
+        six(log, 12);
+        six(log, 13);
+        CHECK.due("NONE before ROOM", log.trim(14), NONE);
+        CHECK.due("ROOM", log.trim(13), ROOM);
+    }
+
+    private static void trimWithoutRoom() {
+        UnitLog log = oneFree();
+        six(log, 9);
+        five(log, 10);
+        CHECK.due("FILL 14: just enough", log.trim(10), 2);
+        CHECK.due("FILL 16", log.trim(9), ROOM);
+        CHECK.due("as before", log.place(9), 35);
+
+        log = oneFree();
+        six(log, 9);
+        six(log, 9);
+        log.arm(0);
+        String before = all(log);
+        CHECK.due("FILL 15", log.trim(9), ROOM);
+        CHECK.due("nothing was done", all(log), before);
 
         log = new UnitLog(4);
         fillSegment(log, 0);
-        log.arm(0);
-        CHECK.due("the first unit fails", log.trim(0), DOWN);
-        CHECK.due("written", log.look(4), 0);
-        CHECK.due("nothing is left", log.recover(), 0);
+        CHECK.due("three are free", log.trim(0), 2);
+        four(log, 4);
+        four(log, 5);
+        six(log, 6);
+        CHECK.due("two are free", log.trim(4), 2);
+        CHECK.due("the third segment", log.look(0), 2);
+
+        log = noneFree();
+        six(log, 12);
+        four(log, 13);
+        CHECK.due("none is free, FILL 14", log.trim(12), 2);
+        CHECK.due("none is free, FILL 16", log.trim(13), ROOM);
     }
 
-    private static void read() {
+    private static void trimGoesDown() {
+        for (int n = 0; n <= 16; n++) {
+            UnitLog log = new UnitLog(4);
+            fillSegment(log, 0);
+            log.arm(n);
+            CHECK.due("armed with " + n, log.trim(0), n < 16 ? DOWN : 2);
+            CHECK.due("armed with " + n + ": down", log.look(6), n < 16 ? 1 : 0);
+            CHECK.due("armed with " + n + ": written", log.look(4), n);
+            log.crash();
+            CHECK.due("armed with " + n + ": whole", log.recover(), n / 4);
+            CHECK.due("armed with " + n + ": not trimmed", log.place(0), n < 4 ? NONE : 0);
+        }
+    }
+
+    // Promises 4, 5, 6
+
+    private static void readHalves() {
         UnitLog log = new UnitLog(4);
         log.write(4, 0x8000000000000001L, -2L);
         CHECK.due("half 0", log.read(4, 0), 0x8000000000000001L);
         CHECK.due("half 1", log.read(4, 1), -2L);
-        CHECK.due("half -1", log.read(4, -1), 0);
-        CHECK.due("half 2", log.read(4, 2), 0);
-        CHECK.due("absent", log.read(5, 0), 0);
-        for (int block : WRONG) {
+        log.write(4, -1, Long.MAX_VALUE);
+        CHECK.due("half 0", log.read(4, 0), -1);
+        CHECK.due("half 1", log.read(4, 1), Long.MAX_VALUE);
+        log.flush();
+        log.crash();
+        log.recover();
+        CHECK.due("half 0, from the disk", log.read(4, 0), -1);
+        CHECK.due("half 1, from the disk", log.read(4, 1), Long.MAX_VALUE);
+    }
+
+    private static void readAbsent() {
+        UnitLog log = new UnitLog(4);
+        CHECK.due("never written", log.read(0, 0), 0);
+        log.write(0, -1, -1);
+        CHECK.due("its neighbour", log.read(1, 0), 0);
+        log.trim(0);
+        CHECK.due("trimmed", log.read(0, 0), 0);
+        CHECK.due("trimmed", log.read(0, 1), 0);
+    }
+
+    private static void readWhileDown() {
+        UnitLog log = down();
+        CHECK.due("half 0", log.read(0, 0), 0);
+        CHECK.due("half 1", log.read(0, 1), 0);
+        log.recover();
+        CHECK.due("up again", log.read(0, 1), PLAIN_LOW);
+    }
+
+    private static void readBadBlock() {
+        UnitLog log = new UnitLog(8);
+        for (int block = 0; block < 16; block++) {
+            log.write(block, -1, -1);
+        }
+        for (int block : NO_BLOCKS) {
             CHECK.due("read(" + block + ", 0)", log.read(block, 0), 0);
             CHECK.due("read(" + block + ", 1)", log.read(block, 1), 0);
+            CHECK.due("read(" + block + ", 2)", log.read(block, 2), 0);
         }
-        log.flush();
-        log.crash();
-        CHECK.due("down, half 0", log.read(4, 0), 0);
-        CHECK.due("down, half 1", log.read(4, 1), 0);
-        log.recover();
-        CHECK.due("again", log.read(4, 1), -2L);
+        CHECK.due("read(15, 1)", log.read(15, 1), -1);
     }
 
-    private static void packed() {
+    private static void readBadHalf() {
         UnitLog log = new UnitLog(4);
-        for (int block : WRONG) {
-            CHECK.due("packed(" + block + ", -1)", log.packed(block, -1), BAD);
+        log.write(0, -1, -1);
+        int[] halves = {-1, 2, 3, Integer.MIN_VALUE, Integer.MAX_VALUE};
+        for (int half : halves) {
+            CHECK.due("read(0, " + half + ")", log.read(0, half), 0);
         }
-        CHECK.due("absent", log.packed(2, -1), NONE);
-        CHECK.due("absent, before k", log.packed(2, -2), NONE);
-        CHECK.due("absent, before k", log.packed(2, 99), NONE);
-        zeros(log, 2);
-        plain(log, 3);
-        CHECK.due("how many", log.packed(2, -1), 3);
-        CHECK.due("byte 0", log.packed(2, 0), 29);
-        CHECK.due("byte 2", log.packed(2, 2), 1);
-        CHECK.due("no byte 3", log.packed(2, 3), BAD);
-        CHECK.due("no byte -2", log.packed(2, -2), BAD);
-        CHECK.due("no such byte", log.packed(2, Integer.MIN_VALUE), BAD);
-        CHECK.due("no such byte", log.packed(2, Integer.MAX_VALUE), BAD);
-        CHECK.due("plain: how many", log.packed(3, -1), 16);
-        CHECK.due("plain: byte 15", log.packed(3, 15), 15);
-        CHECK.due("plain: no byte 16", log.packed(3, 16), BAD);
-        CHECK.due("the other one's", log.packed(2, 0), 29);
+    }
+
+    private static void packedBytes() {
+        UnitLog log = new UnitLog(4);
+        log.write(2, -1, -1);
+        CHECK.due("the first", log.packed(2, 0), 29);
+        CHECK.due("255", log.packed(2, 1), 255);
+        CHECK.due("the last", log.packed(2, 2), 1);
+        six(log, 3);
+        CHECK.due("the first, 0", log.packed(3, 0), 0);
+        CHECK.due("the last of 16", log.packed(3, 15), 15);
+        CHECK.due("the other one's still", log.packed(2, 1), 255);
         log.write(2, PLAIN_LOW, PLAIN_HIGH);
         CHECK.due("written over", log.packed(2, 0), 8);
-        log.trim(3);
-        CHECK.due("trimmed", log.packed(3, 0), NONE);
+        log.flush();
+        log.crash();
+        log.recover();
+        CHECK.due("from the disk", log.packed(2, 15), 7);
     }
 
-    private static void place() {
+    private static void packedHowMany() {
         UnitLog log = new UnitLog(4);
-        for (int block : WRONG) {
+        three(log, 0);
+        CHECK.due("3", log.packed(0, -1), 3);
+        four(log, 0);
+        CHECK.due("6", log.packed(0, -1), 6);
+        five(log, 0);
+        CHECK.due("10", log.packed(0, -1), 10);
+        six(log, 0);
+        CHECK.due("16", log.packed(0, -1), 16);
+    }
+
+    private static void packedWhileDown() {
+        UnitLog log = down();
+        CHECK.due("a block", log.packed(0, 0), DOWN);
+        CHECK.due("how many", log.packed(0, -1), DOWN);
+        CHECK.due("no such byte", log.packed(0, 16), DOWN);
+        CHECK.due("absent", log.packed(5, 0), DOWN);
+        CHECK.due("no block", log.packed(16, 0), DOWN);
+    }
+
+    private static void packedBadBlock() {
+        UnitLog log = new UnitLog(4);
+        six(log, 0);
+        six(log, 15);
+        for (int block : NO_BLOCKS) {
+            CHECK.due("packed(" + block + ", 0)", log.packed(block, 0), BAD);
+            CHECK.due("packed(" + block + ", -1)", log.packed(block, -1), BAD);
+        }
+    }
+
+    private static void packedNoSuchByte() {
+        UnitLog log = new UnitLog(4);
+        six(log, 1);
+        three(log, 2);
+        int[] none = {-2, -3, 16, 17, 18, 255, Integer.MIN_VALUE, Integer.MAX_VALUE};
+        for (int k : none) {
+            CHECK.due("packed(1, " + k + ")", log.packed(1, k), BAD);
+            CHECK.due("packed(2, " + k + ")", log.packed(2, k), BAD);
+        }
+        CHECK.due("the last of 16", log.packed(1, 15), 15);
+        for (int k = 3; k < 16; k++) {
+            CHECK.due("packed(2, " + k + ")", log.packed(2, k), BAD);
+        }
+    }
+
+    private static void packedAbsent() {
+        UnitLog log = new UnitLog(4);
+        int[] all = {-1, 0, 15, 16, -2, Integer.MIN_VALUE, Integer.MAX_VALUE};
+        for (int k : all) {
+            CHECK.due("never written: packed(2, " + k + ")", log.packed(2, k), NONE);
+        }
+        six(log, 2);
+        log.trim(2);
+        for (int k : all) {
+            CHECK.due("trimmed: packed(2, " + k + ")", log.packed(2, k), NONE);
+        }
+    }
+
+    private static void placeOfLatest() {
+        UnitLog log = new UnitLog(8);
+        three(log, 0);
+        CHECK.due("0, the lowest", log.place(0), 0);
+        four(log, 1);
+        CHECK.due("unit 3", log.place(1), 3);
+        six(log, 0);
+        CHECK.due("the latest, unit 7", log.place(0), 7);
+        log.trim(1);
+        CHECK.due("as before", log.place(0), 7);
+        four(log, 1);
+        CHECK.due("segment 1", log.place(1), 16);
+
+        log = new UnitLog(8);
+        for (int block = 0; block < 14; block++) {
+            six(log, block);
+        }
+        CHECK.due("segment 6, unit 6", log.place(13), 102);
+        CHECK.due("two records go to segment 7", log.clean(), 2);
+        CHECK.due("segment 7", log.place(0), 112);
+        CHECK.due("segment 7, unit 6", log.place(1), 118);
+        four(log, 14);
+        CHECK.due("segment 7, unit 12", log.place(14), 124);
+    }
+
+    private static void placeWhileDown() {
+        UnitLog log = down();
+        CHECK.due("a block", log.place(0), DOWN);
+        CHECK.due("absent", log.place(5), DOWN);
+        CHECK.due("no block", log.place(16), DOWN);
+    }
+
+    private static void placeBadBlock() {
+        UnitLog log = new UnitLog(4);
+        six(log, 0);
+        six(log, 15);
+        for (int block : NO_BLOCKS) {
             CHECK.due("place(" + block + ")", log.place(block), BAD);
         }
-        CHECK.due("absent", log.place(0), NONE);
-        zeros(log, 0);
-        plain(log, 1);
-        plain(log, 2);
-        plain(log, 3);
-        CHECK.due("place(0)", log.place(0), 0);
-        CHECK.due("place(1)", log.place(1), 3);
-        CHECK.due("place(2)", log.place(2), 9);
-        CHECK.due("place(3)", log.place(3), 16);
-        zeros(log, 1);
-        CHECK.due("the latest", log.place(1), 22);
-        log.trim(1);
-        CHECK.due("trimmed", log.place(1), NONE);
+        CHECK.due("place(15)", log.place(15), 6);
     }
 
-    private static void flush() {
+    private static void placeAbsent() {
+        UnitLog log = new UnitLog(4);
+        CHECK.due("never written", log.place(0), NONE);
+        three(log, 0);
+        log.trim(0);
+        CHECK.due("trimmed", log.place(0), NONE);
+    }
+
+    // Promises 7, 8
+
+    private static void flushSaves() {
+        UnitLog log = new UnitLog(4);
+        CHECK.due("nothing yet", log.flush(), 0);
+        six(log, 0);
+        CHECK.due("six", log.flush(), 6);
+        CHECK.due("none", log.flush(), 0);
+        three(log, 0);
+        log.trim(0);
+        CHECK.due("those behind SAVED", log.flush(), 5);
+        looks(log, "saved", 11, 11, 3, 0, 11);
+        six(log, 0);
+        CHECK.due("of the next segment", log.flush(), 6);
+        log = new UnitLog(4);
+        fillSegment(log, 0);
+        CHECK.due("a whole segment", log.flush(), 16);
+        CHECK.due("none", log.flush(), 0);
+    }
+
+    private static void flushWhileDown() {
+        UnitLog log = down();
+        CHECK.due("flush", log.flush(), DOWN);
+        CHECK.due("written", log.look(4), 9);
+    }
+
+    private static void flushGoesDown() {
+        for (int n = 0; n <= 16; n++) {
+            UnitLog log = new UnitLog(4);
+            fillSegment(log, 0);
+            log.arm(n);
+            CHECK.due("armed with " + n, log.flush(), n < 16 ? DOWN : 16);
+            CHECK.due("armed with " + n + ": down", log.look(6), n < 16 ? 1 : 0);
+            CHECK.due("armed with " + n + ": written", log.look(4), n);
+            CHECK.due("armed with " + n + ": armed", log.look(5), 0);
+            log.crash();
+            CHECK.due("armed with " + n + ": whole", log.recover(), n / 4);
+        }
         UnitLog log = new UnitLog(4);
         log.arm(0);
-        CHECK.due("nothing to write, armed with 0", log.flush(), 0);
-        log.disarm();
-        plain(log, 0);
-        CHECK.due("six units", log.flush(), 6);
-        CHECK.due("none", log.flush(), 0);
-        zeros(log, 0);
-        CHECK.due("those behind SAVED", log.flush(), 3);
-        looks(log, "all saved", 9, 9, 2, 0, 9);
-        plain(log, 1);
-        log.arm(6);
-        CHECK.due("just enough", log.flush(), 6);
-        zeros(log, 2);
-        CHECK.due("into the next segment", log.look(1), 0);
-        log.arm(2);
-        CHECK.due("one too few", log.flush(), DOWN);
-        CHECK.due("written", log.look(4), 17);
-        CHECK.due("rolled forward", log.recover(), 3);
-        CHECK.due("not wholly on the disk", log.place(2), NONE);
-        looks(log, "the segment of the last one", 15, 15, 3, 1, 37);
+        CHECK.due("nothing to save", log.flush(), 0);
+        CHECK.due("not down", log.look(6), 0);
     }
 
-    private static void checkpoint() {
+    private static void checkpointNumber() {
         UnitLog log = new UnitLog(4);
         CHECK.due("the first", log.checkpoint(), 1);
-        plain(log, 0);
+        six(log, 0);
         CHECK.due("the second", log.checkpoint(), 2);
-        looks(log, "it saves", 6, 6, 1, 2, 46);
-        log.arm(20);
-        CHECK.due("just enough", log.checkpoint(), 3);
-        log.arm(19);
-        CHECK.due("one too few", log.checkpoint(), DOWN);
-        CHECK.due("written", log.look(4), 85);
-        CHECK.due("nothing behind the third", log.recover(), 0);
-        looks(log, "the fourth did not count", 6, 6, 1, 4, 105);
-        zeros(log, 1);
-        log.arm(2);
-        CHECK.due("down while it saves", log.checkpoint(), DOWN);
-        CHECK.due("not whole", log.recover(), 0);
-        CHECK.due("not whole", log.place(1), NONE);
-        zeros(log, 1);
-        log.trim(0);
-        CHECK.due("next number", log.checkpoint(), 6);
+        looks(log, "saved too", 6, 6, 1, 2, 46);
+        CHECK.due("the third, nothing to save", log.checkpoint(), 3);
+        looks(log, "20 units more", 6, 6, 1, 3, 66);
         log.crash();
-        CHECK.due("the checkpoint holds all", log.recover(), 0);
-        CHECK.due("the store", log.place(1), 6);
-        CHECK.due("the trim", log.place(0), NONE);
-        looks(log, "what it held", 11, 11, 3, 7, 172);
+        log.recover();
+        CHECK.due("behind recover's", log.checkpoint(), 5);
     }
 
-    private static void clean() {
-        UnitLog log = new UnitLog(4);
-        CHECK.due("none is closed", log.clean(), NONE);
-        zeros(log, 0);
-        CHECK.due("the open one is not closed", log.clean(), NONE);
-        looks(log, "nothing is done", 3, 0, 1, 0, 0);
-        plain(log, 1);
-        plain(log, 2);
-        four(log, 1);
-        CHECK.due("two live records", log.clean(), 2);
-        states(log, "free again", 0, 1, 0, 0);
-        lives(log, "free again", 0, 13, 0, 0);
-        CHECK.due("first by place", log.place(0), 20);
-        CHECK.due("then", log.place(2), 23);
-        CHECK.due("high", log.read(2, 0), PLAIN_HIGH);
-        CHECK.due("low", log.read(2, 1), PLAIN_LOW);
-        looks(log, "two checkpoints and two records", 13, 13, 6, 2, 15 + 13 + 40);
-        four(log, 3);
-        CHECK.due("the lowest free one", log.place(3), 0);
-        four(log, 0);
-        four(log, 1);
-        four(log, 2);
-        CHECK.due("nothing live", log.clean(), 0);
-        states(log, "free again", 1, 0, 0, 0);
-        looks(log, "two checkpoints and no record", 16, 16, 10, 4, 68 + 16 + 40);
-        log.crash();
-        CHECK.due("nothing is behind its checkpoint", log.recover(), 0);
-        CHECK.due("all there", log.place(2), 12);
+    private static void checkpointWhileDown() {
+        UnitLog log = down();
+        CHECK.due("checkpoint", log.checkpoint(), DOWN);
+        CHECK.due("written", log.look(4), 9);
+        log.recover();
+        CHECK.due("the next number", log.checkpoint(), 2);
     }
 
-    private static void cleanChoosesAndOrders() {
-        UnitLog log = new UnitLog(6);
-        fillSegment(log, 0);
-        fillSegment(log, 4);
-        fillSegment(log, 8);
-        zeros(log, 0);
-        zeros(log, 5);
-        zeros(log, 7);
-        zeros(log, 9);
-        zeros(log, 10);
-        lives(log, "before", 12, 8, 8, 15, 0, 0);
-        CHECK.due("the fewest, of these the lowest", log.clean(), 2);
-        states(log, "segment 1", 2, 0, 2, 2, 1, 0);
-        CHECK.due("by place", log.place(4), 64);
-        CHECK.due("by place", log.place(6), 68);
-        CHECK.due("the next", log.clean(), 2);
-        states(log, "segment 2", 2, 0, 0, 2, 1, 0);
-        CHECK.due("by place", log.place(8), 72);
-        CHECK.due("by place", log.place(11), 76);
-        log.trim(8);
-        log.trim(6);
-        lives(log, "trimmed", 12, 0, 0, 15, 8, 0);
-
-        // By place, not by block: the higher block lies first.
-        log = new UnitLog(4);
-        four(log, 9);
-        plain(log, 2);
-        plain(log, 5);
-        zeros(log, 5);
-        CHECK.due("two", log.clean(), 2);
-        CHECK.due("block 9 first", log.place(9), 19);
-        CHECK.due("block 2 then", log.place(2), 23);
-    }
-
-    private static void cleanWithoutRoom() {
-        UnitLog log = new UnitLog(4);
-        for (int i = 0; i < 12; i++) {
-            four(log, i);
-        }
-        CHECK.due("the last free one may be used", log.clean(), 4);
-        states(log, "the open one was full", 0, 2, 2, 1);
-        CHECK.due("the cleaned one", log.clean(), 4);
-        states(log, "once more", 1, 0, 2, 2);
-
-        noSegmentFree();
-    }
-
-    /** Four segments used, as it is when the cleaner went down behind the first of its records. */
-    private static UnitLog cleanedInPart() {
-        UnitLog log = new UnitLog(4);
-        for (int i = 0; i < 12; i++) {
-            four(log, i);
-        }
-        log.arm(16 + 20 + 4);
-        CHECK.due("down behind one record", log.clean(), DOWN);
-        CHECK.due("one rolled forward", log.recover(), 1);
-        states(log, "none free", 2, 2, 2, 1);
-        lives(log, "none free", 12, 16, 16, 4);
-        looks(log, "none free", 4, 4, 13, 2, 32 + 40 + 20);
-        return log;
-    }
-
-    private static void noSegmentFree() {
-        UnitLog log = cleanedInPart();
-        CHECK.due("just enough", log.clean(), 3);
-        states(log, "just enough", 0, 2, 2, 1);
-        lives(log, "just enough", 0, 16, 16, 16);
-
-        log = cleanedInPart();
-        CHECK.due("fits", plain(log, 12), 6);
-        CHECK.due("fits no more", log.clean(), ROOM);
-        looks(log, "nothing is done", 10, 4, 14, 2, 92);
-        states(log, "nothing is done", 2, 2, 2, 1);
-        log.arm(0);
-        CHECK.due("no unit is written", log.clean(), ROOM);
-        CHECK.due("not down", log.look(6), 0);
-        log.disarm();
-        CHECK.due("the rest can be used", plain(log, 13), 6);
-        CHECK.due("none is free", log.trim(1), ROOM);
-        CHECK.due("none is free", zeros(log, 1), ROOM);
-        CHECK.due("none is free", log.clean(), ROOM);
-
-        // A record fewer to move.
-        log = cleanedInPart();
-        CHECK.due("one is absent", log.trim(2), 2);
-        CHECK.due("the other two", log.clean(), 2);
-        CHECK.due("by place", log.place(1), 48 + 6);
-        CHECK.due("by place", log.place(3), 48 + 10);
-        states(log, "one free", 0, 2, 2, 1);
-    }
-
-    private static void cleanGoesDown() {
-        // Two live records of 9 units; 4 are to be saved first: 4 + 20, 9 + 20.
-        for (int n = 0; n <= 53; n++) {
+    private static void checkpointGoesDown() {
+        for (int n = 0; n <= 26; n++) {
             UnitLog log = new UnitLog(4);
-            zeros(log, 0);
-            plain(log, 1);
-            plain(log, 2);
-            four(log, 1);
+            log.checkpoint();
+            six(log, 0);
             log.arm(n);
-            String at = "clean, armed with " + n;
-            CHECK.due(at, log.clean(), n < 53 ? DOWN : 2);
-            CHECK.due(at + ": down", log.look(6), n < 53 ? 1 : 0);
-            CHECK.due(at + ": written", log.look(4), 15 + n);
-            CHECK.due(at + ": armed", log.look(5), 0);
-            if (n == 53) {
-                log.crash();
-            }
-            int before = n < 4 ? 3 : 4;
-            int moved = n < 27 ? 0 : n < 33 ? 1 : 2;
-            int held = n < 24 ? 0 : n < 53 ? 4 : 6;
-            CHECK.due(at + ": rolled", log.recover(), before + moved - held);
-            CHECK.due(at + ": serial", log.look(2), before + moved);
-            CHECK.due(at + ": checkpoint", log.look(3), n < 24 ? 1 : n < 53 ? 2 : 3);
-            CHECK.due(at + ": block 0", log.place(0), moved > 0 ? 20 : 0);
-            CHECK.due(at + ": block 1", log.place(1), n < 4 ? 3 : 16);
-            CHECK.due(at + ": block 2", log.place(2), moved > 1 ? 23 : 9);
-            CHECK.due(at + ": bytes", log.read(2, 1), PLAIN_LOW);
-            CHECK.due(at + ": segment 0", log.segment(0), n < 4 ? 1 : moved > 1 ? 0 : 2);
-            CHECK.due(at + ": segment 1", log.segment(1), n < 4 ? 0 : 1);
+            CHECK.due("armed with " + n, log.checkpoint(), n < 26 ? DOWN : 2);
+            CHECK.due("armed with " + n + ": down", log.look(6), n < 26 ? 1 : 0);
+            CHECK.due("armed with " + n + ": written", log.look(4), 20 + n);
+            log.crash();
+            CHECK.due("armed with " + n + ": rolled", log.recover(), n < 6 || n == 26 ? 0 : 1);
+            CHECK.due("armed with " + n + ": number", log.look(3), n < 26 ? 2 : 3);
         }
     }
 
-    private static void arm() {
+    // Promises 10, 11, 12
+
+    private static void armWithN() {
         UnitLog log = new UnitLog(4);
-        CHECK.due("arm(-1)", log.arm(-1), false);
-        CHECK.due("arm(10001)", log.arm(10001), false);
-        CHECK.due("arm(least)", log.arm(Integer.MIN_VALUE), false);
-        CHECK.due("arm(most)", log.arm(Integer.MAX_VALUE), false);
-        CHECK.due("not armed", log.look(5), -1);
         CHECK.due("arm(10000)", log.arm(10000), true);
         CHECK.due("armed", log.look(5), 10000);
-        CHECK.due("arm(10001)", log.arm(10001), false);
-        CHECK.due("as before", log.look(5), 10000);
         CHECK.due("arm(30)", log.arm(30), true);
-        plain(log, 0);
-        CHECK.due("no unit was written", log.look(5), 30);
-        log.flush();
-        CHECK.due("one less with each unit", log.look(5), 24);
-        log.checkpoint();
-        CHECK.due("those of a checkpoint too", log.look(5), 4);
+        CHECK.due("armed anew", log.look(5), 30);
         CHECK.due("arm(0)", log.arm(0), true);
         CHECK.due("armed with 0", log.look(5), 0);
         CHECK.due("not down for that", log.look(6), 0);
-        CHECK.due("the next unit fails", log.checkpoint(), DOWN);
-        CHECK.due("still 0", log.look(5), 0);
-        CHECK.due("arm while down", log.arm(5), false);
-        CHECK.due("still 0", log.look(5), 0);
+        CHECK.due("the next unit", log.checkpoint(), DOWN);
+
+        log = new UnitLog(4);
+        log.arm(10000);
+        for (int n = 1; n <= 500; n++) {
+            CHECK.due("checkpoint " + n, log.checkpoint(), n);
+        }
+        CHECK.due("used up", log.look(5), 0);
+        CHECK.due("unit 10001", log.checkpoint(), DOWN);
     }
 
-    private static void disarm() {
+    private static void armWhileDown() {
+        UnitLog log = down();
+        CHECK.due("arm(0)", log.arm(0), false);
+        CHECK.due("arm(5)", log.arm(5), false);
+        CHECK.due("arm(10001)", log.arm(10001), false);
+        CHECK.due("not armed", log.look(5), -1);
+    }
+
+    private static void armBadNumber() {
         UnitLog log = new UnitLog(4);
-        CHECK.due("not armed", log.disarm(), false);
+        int[] numbers = {-1, 10001, Integer.MIN_VALUE, Integer.MAX_VALUE};
+        for (int n : numbers) {
+            CHECK.due("arm(" + n + ")", log.arm(n), false);
+            CHECK.due("not armed", log.look(5), -1);
+        }
+        log.arm(7);
+        for (int n : numbers) {
+            CHECK.due("arm(" + n + ")", log.arm(n), false);
+            CHECK.due("armed as before", log.look(5), 7);
+        }
+    }
+
+    private static void disarmed() {
+        UnitLog log = new UnitLog(4);
+        log.arm(5);
+        CHECK.due("disarm", log.disarm(), true);
+        CHECK.due("not armed", log.look(5), -1);
+        CHECK.due("20 units", log.checkpoint(), 1);
         log.arm(0);
-        CHECK.due("armed with 0", log.disarm(), true);
-        CHECK.due("not armed any more", log.look(5), -1);
-        CHECK.due("not armed", log.disarm(), false);
-        CHECK.due("nothing fails", log.checkpoint(), 1);
+        CHECK.due("armed with 0 is armed", log.disarm(), true);
+        CHECK.due("20 units more", log.checkpoint(), 2);
+        log.arm(20);
+        log.checkpoint();
+        CHECK.due("used up is armed", log.disarm(), true);
+        CHECK.due("20 units more", log.checkpoint(), 4);
+    }
+
+    private static void disarmWhileDown() {
+        UnitLog log = new UnitLog(4);
         log.arm(7);
         log.crash();
-        CHECK.due("down", log.disarm(), false);
-        CHECK.due("as it was", log.look(5), 7);
+        CHECK.due("disarm", log.disarm(), false);
+        CHECK.due("armed as before", log.look(5), 7);
+        log = new UnitLog(4);
+        log.arm(0);
+        log.checkpoint();
+        CHECK.due("disarm", log.disarm(), false);
+        CHECK.due("armed as before", log.look(5), 0);
     }
 
-    private static void crash() {
+    private static void disarmNotArmed() {
         UnitLog log = new UnitLog(4);
-        plain(log, 0);
+        CHECK.due("never armed", log.disarm(), false);
+        log.arm(3);
+        log.disarm();
+        CHECK.due("disarmed", log.disarm(), false);
+        log.arm(-1);
+        CHECK.due("refused", log.disarm(), false);
+        log.arm(3);
+        log.crash();
+        log.recover();
+        CHECK.due("recovered", log.disarm(), false);
+        CHECK.due("not armed", log.look(5), -1);
+    }
+
+    private static void crashGoesDown() {
+        UnitLog log = new UnitLog(4);
+        six(log, 0);
         log.flush();
-        zeros(log, 1);
+        three(log, 1);
         log.arm(9);
         CHECK.due("crash", log.crash(), true);
         CHECK.due("down", log.look(6), 1);
-        CHECK.due("armed still", log.look(5), 9);
-        CHECK.due("written", log.look(4), 6);
-        CHECK.due("crash again", log.crash(), false);
+        CHECK.due("no unit is written", log.look(4), 6);
+        CHECK.due("armed as before", log.look(5), 9);
+        CHECK.due("flush", log.flush(), DOWN);
         CHECK.due("what is on the disk", log.recover(), 1);
-        CHECK.due("up", log.look(6), 0);
-        CHECK.due("saved", log.place(0), 0);
-        CHECK.due("not saved", log.place(1), NONE);
+        absent(log, "lost", 1);
+        CHECK.due("crash of a new one", new UnitLog(4).crash(), true);
     }
 
-    private static void recover() {
-        UnitLog log = new UnitLog(4);
-        log.arm(3);
-        CHECK.due("not down", log.recover(), BAD);
-        CHECK.due("armed still", log.look(5), 3);
-        CHECK.due("no checkpoint", log.look(3), 0);
-        log.crash();
-        CHECK.due("nothing to roll", log.recover(), 0);
-        CHECK.due("not armed any more", log.look(5), -1);
-        looks(log, "a checkpoint was made", 0, 0, 0, 1, 20);
-        CHECK.due("not down any more", log.recover(), BAD);
-
-        // Full at the checkpoint, and what is behind it in the next segment is lost: still the full one is open.
-        log = new UnitLog(4);
-        fillSegment(log, 0);
-        log.checkpoint();
-        plain(log, 5);
-        states(log, "segment 1 open", 2, 1, 0, 0);
-        log.crash();
-        CHECK.due("none", log.recover(), 0);
-        states(log, "segment 0 open", 1, 0, 0, 0);
-        looks(log, "segment 0 open", 16, 16, 4, 2, 16 + 40);
-        CHECK.due("opened anew", plain(log, 5), 6);
-        CHECK.due("opened anew", log.place(5), 16);
-    }
-
-    private static void recoverRollsForward() {
-        UnitLog log = new UnitLog(5);
-        zeros(log, 0);
-        log.checkpoint();
-        four(log, 1);
-        log.trim(0);
-        plain(log, 2);
-        plain(log, 1);
-        plain(log, 3);
-        four(log, 0);
-        log.arm(13);
-        CHECK.due("down behind two and a bit", log.flush(), DOWN);
-        CHECK.due("rolled by serial", log.recover(), 5);
-        looks(log, "behind block 3", 12, 12, 6, 2, 15 + 20 + 13 + 20);
-        CHECK.due("trimmed", log.place(0), NONE);
-        CHECK.due("the later one", log.place(1), 16);
-        CHECK.due("its bytes", log.read(1, 0), PLAIN_HIGH);
-        CHECK.due("block 2", log.place(2), 9);
-        CHECK.due("block 3", log.place(3), 22);
-        states(log, "one open", 2, 1, 0, 0, 0);
-        lives(log, "one open", 6, 12, 0, 0, 0);
-
-        // A record that ends with the last unit written is whole; the open segment is the last record's.
-        log = new UnitLog(4);
-        plain(log, 0);
-        plain(log, 1);
-        plain(log, 0);
-        zeros(log, 1);
-        log.arm(6);
-        CHECK.due("down", log.flush(), DOWN);
-        CHECK.due("three", log.recover(), 3);
-        states(log, "segment 0 has block 1", 2, 1, 0, 0);
-        CHECK.due("FILL", log.look(0), 6);
-
-        // Without live units the other segments are free.
-        log = new UnitLog(4);
-        plain(log, 0);
-        plain(log, 0);
-        plain(log, 0);
-        log.flush();
-        states(log, "closed before", 2, 1, 0, 0);
-        log.crash();
+    private static void crashWhileDown() {
+        UnitLog log = down();
+        CHECK.due("after a crash", log.crash(), false);
         log.recover();
-        states(log, "free then", 0, 1, 0, 0);
+        CHECK.due("recovered", log.crash(), true);
+        log.recover();
+        log.arm(0);
+        log.checkpoint();
+        CHECK.due("after the disk failed", log.crash(), false);
+        CHECK.due("armed as before", log.look(5), 0);
     }
 
-    private static void recoverGivesSerialsAgain() {
+    // Promise 13
+
+    private static void recoverDisarms() {
         UnitLog log = new UnitLog(4);
-        plain(log, 0);
-        plain(log, 1);
-        log.arm(11);
-        CHECK.due("down", log.flush(), DOWN);
-        CHECK.due("one", log.recover(), 1);
-        zeros(log, 2);
-        CHECK.due("the next serial", log.look(2), 2);
-        CHECK.due("behind the first", log.place(2), 6);
-        // Units 7 and 8 hold what was lost: the new record is not whole with them.
-        log.arm(1);
-        CHECK.due("down", log.flush(), DOWN);
-        CHECK.due("none", log.recover(), 0);
-        CHECK.due("lost", log.place(2), NONE);
-        CHECK.due("lost", log.place(1), NONE);
-        zeros(log, 3);
+        log.arm(0);
+        CHECK.due("down", log.checkpoint(), DOWN);
+        CHECK.due("its own checkpoint is written", log.recover(), 0);
+        CHECK.due("not armed", log.look(5), -1);
+        CHECK.due("not down", log.look(6), 0);
+        CHECK.due("20 units", log.look(4), 20);
+        log.arm(19);
+        log.crash();
+        CHECK.due("its own checkpoint is written", log.recover(), 0);
+        CHECK.due("not armed", log.look(5), -1);
+        CHECK.due("the second", log.look(3), 2);
+    }
+
+    private static void recoverCounts() {
+        UnitLog log = new UnitLog(4);
+        log.crash();
+        CHECK.due("nothing was appended", log.recover(), 0);
+        three(log, 0);
+        log.crash();
+        CHECK.due("nothing was saved", log.recover(), 0);
+        three(log, 0);
+        log.trim(0);
         log.flush();
         log.crash();
-        CHECK.due("one", log.recover(), 1);
-        CHECK.due("whole", log.place(3), 6);
-        looks(log, "behind it", 9, 9, 2, 3, 11 + 20 + 1 + 20 + 3 + 20);
+        CHECK.due("a STORE record and a TRIM record", log.recover(), 2);
+        log.crash();
+        CHECK.due("all are in its checkpoint", log.recover(), 0);
+        six(log, 0);
+        three(log, 1);
+        three(log, 2);
+        three(log, 3);
+        log.arm(5);
+        CHECK.due("one unit of the second segment is lacking", log.flush(), DOWN);
+        CHECK.due("two of the closed segment, one of the open one", log.recover(), 3);
     }
 
-    private static void live() {
+    private static void recoverNotDown() {
         UnitLog log = new UnitLog(4);
-        int[] wrong = {-1, 4, Integer.MIN_VALUE, Integer.MAX_VALUE};
-        for (int s : wrong) {
+        three(log, 0);
+        log.arm(3);
+        String before = all(log);
+        CHECK.due("not down", log.recover(), BAD);
+        CHECK.due("nothing was done", all(log), before);
+        log.crash();
+        CHECK.due("down", log.recover(), 0);
+        CHECK.due("not down any more", log.recover(), BAD);
+        CHECK.due("one checkpoint", log.look(3), 1);
+    }
+
+    // Promises 14, 15
+
+    private static void liveUnits() {
+        UnitLog log = new UnitLog(4);
+        lives(log, "new", 0, 0, 0, 0);
+        fillSegment(log, 0);
+        CHECK.due("all 16", log.live(0), 16);
+        three(log, 0);
+        lives(log, "one written over", 12, 3, 0, 0);
+        log.trim(1);
+        log.trim(2);
+        lives(log, "two trimmed", 4, 3, 0, 0);
+        CHECK.due("cleaned", log.clean(), 1);
+        lives(log, "cleaned", 0, 7, 0, 0);
+        CHECK.due("the highest of eight", new UnitLog(8).live(7), 0);
+    }
+
+    private static void liveWhileDown() {
+        UnitLog log = down();
+        CHECK.due("a segment", log.live(0), DOWN);
+        CHECK.due("none", log.live(4), DOWN);
+        CHECK.due("none", log.live(-1), DOWN);
+    }
+
+    private static void liveNoSuchSegment() {
+        UnitLog log = new UnitLog(4);
+        for (int s : NO_SEGMENTS) {
             CHECK.due("live(" + s + ")", log.live(s), BAD);
         }
-        CHECK.due("live(7) of eight", new UnitLog(8).live(7), 0);
-        CHECK.due("live(8) of eight", new UnitLog(8).live(8), BAD);
-        plain(log, 0);
-        zeros(log, 1);
-        CHECK.due("all, saved or not", log.live(0), 9);
-        four(log, 0);
-        CHECK.due("the latest only", log.live(0), 7);
-        log.trim(1);
-        CHECK.due("not the trimmed one, nor its TRIM record", log.live(0), 4);
-        plain(log, 0);
-        lives(log, "in the next segment", 0, 6, 0, 0);
+        for (int count = 4; count <= 8; count++) {
+            log = new UnitLog(count);
+            CHECK.due("the last of " + count, log.live(count - 1), 0);
+            CHECK.due("behind the last of " + count, log.live(count), BAD);
+        }
     }
 
-    private static void segment() {
+    private static void segmentStates() {
         UnitLog log = new UnitLog(4);
-        int[] wrong = {-1, 4, Integer.MIN_VALUE, Integer.MAX_VALUE};
-        for (int s : wrong) {
+        states(log, "new", OPEN, FREE, FREE, FREE);
+        fillSegment(log, 0);
+        states(log, "full, and still open", OPEN, FREE, FREE, FREE);
+        fillSegment(log, 0);
+        states(log, "closed without live units", CLOSED, OPEN, FREE, FREE);
+        log.clean();
+        states(log, "cleaned", FREE, OPEN, FREE, FREE);
+        three(log, 0);
+        states(log, "open again", OPEN, CLOSED, FREE, FREE);
+    }
+
+    private static void segmentWhileDown() {
+        UnitLog log = down();
+        CHECK.due("a segment", log.segment(0), DOWN);
+        CHECK.due("none", log.segment(4), DOWN);
+        CHECK.due("none", log.segment(-1), DOWN);
+    }
+
+    private static void segmentNoSuchSegment() {
+        UnitLog log = new UnitLog(4);
+        for (int s : NO_SEGMENTS) {
             CHECK.due("segment(" + s + ")", log.segment(s), BAD);
         }
-        states(log, "new", 1, 0, 0, 0);
-        fillSegment(log, 0);
-        four(log, 0);
-        four(log, 1);
-        four(log, 2);
-        states(log, "the second", 2, 1, 0, 0);
-        four(log, 3);
-        lives(log, "the second", 0, 16, 0, 0);
-        states(log, "closed without live units", 2, 1, 0, 0);
-        log.clean();
-        states(log, "cleaned", 0, 1, 0, 0);
+        for (int count = 4; count <= 8; count++) {
+            log = new UnitLog(count);
+            CHECK.due("the last of " + count, log.segment(count - 1), FREE);
+            CHECK.due("behind the last of " + count, log.segment(count), BAD);
+        }
     }
 
-    private static void look() {
+    // Promise 16
+
+    private static void lookFill() {
         UnitLog log = new UnitLog(4);
-        int[] wrong = {-1, 7, Integer.MIN_VALUE, Integer.MAX_VALUE};
-        for (int what : wrong) {
+        CHECK.due("empty", log.look(0), 0);
+        three(log, 0);
+        log.trim(0);
+        CHECK.due("5", log.look(0), 5);
+        five(log, 0);
+        six(log, 0);
+        CHECK.due("full", log.look(0), 16);
+        log.checkpoint();
+        CHECK.due("full still", log.look(0), 16);
+        three(log, 0);
+        CHECK.due("the next segment", log.look(0), 3);
+    }
+
+    private static void lookSaved() {
+        UnitLog log = new UnitLog(4);
+        CHECK.due("empty", log.look(1), 0);
+        three(log, 0);
+        CHECK.due("not saved", log.look(1), 0);
+        log.flush();
+        CHECK.due("by flush", log.look(1), 3);
+        three(log, 0);
+        CHECK.due("those before", log.look(1), 3);
+        log.checkpoint();
+        CHECK.due("by checkpoint", log.look(1), 6);
+        five(log, 0);
+        five(log, 0);
+        CHECK.due("by flush", log.flush(), 10);
+        CHECK.due("all of the segment", log.look(1), 16);
+        three(log, 0);
+        CHECK.due("the next segment", log.look(1), 0);
+    }
+
+    private static void lookSerial() {
+        UnitLog log = new UnitLog(4);
+        CHECK.due("none yet", log.look(2), 0);
+        log.trim(0);
+        log.flush();
+        log.checkpoint();
+        CHECK.due("none yet", log.look(2), 0);
+        three(log, 0);
+        CHECK.due("not saved yet", log.look(2), 1);
+        log.crash();
+        log.recover();
+        CHECK.due("lost", log.look(2), 0);
+        three(log, 0);
+        log.trim(0);
+        log.checkpoint();
+        log.crash();
+        log.recover();
+        CHECK.due("not lost", log.look(2), 2);
+    }
+
+    private static void lookCheckpoint() {
+        UnitLog log = new UnitLog(4);
+        CHECK.due("checkpoint 0", log.look(3), 0);
+        log.checkpoint();
+        CHECK.due("the first", log.look(3), 1);
+        log.arm(19);
+        log.checkpoint();
+        log.recover();
+        CHECK.due("the second is recover's", log.look(3), 2);
+        fillSegment(log, 0);
+        three(log, 0);
+        CHECK.due("clean", log.clean(), 3);
+        CHECK.due("clean makes two", log.look(3), 4);
+    }
+
+    private static void lookWhileDown() {
+        UnitLog log = new UnitLog(4);
+        three(log, 0);
+        log.flush();
+        log.crash();
+        for (int what = 0; what < 4; what++) {
+            CHECK.due("look(" + what + ") after a crash", log.look(what), DOWN);
+        }
+        CHECK.due("look(4)", log.look(4), 3);
+        CHECK.due("look(5)", log.look(5), -1);
+        CHECK.due("look(6)", log.look(6), 1);
+        log.recover();
+        looks(log, "up again", 3, 3, 1, 1, 23);
+        log.arm(4);
+        log.checkpoint();
+        for (int what = 0; what < 4; what++) {
+            CHECK.due("look(" + what + ") after the disk failed", log.look(what), DOWN);
+        }
+        CHECK.due("look(4)", log.look(4), 27);
+        CHECK.due("look(5)", log.look(5), 0);
+        CHECK.due("look(6)", log.look(6), 1);
+    }
+
+    private static void lookWritten() {
+        UnitLog log = new UnitLog(4);
+        CHECK.due("checkpoint 0 not", log.look(4), 0);
+        three(log, 0);
+        CHECK.due("not saved", log.look(4), 0);
+        log.flush();
+        CHECK.due("saved", log.look(4), 3);
+        log.checkpoint();
+        CHECK.due("a checkpoint", log.look(4), 23);
+        log.arm(7);
+        log.checkpoint();
+        CHECK.due("one that does not count", log.look(4), 30);
+        log.recover();
+        CHECK.due("recover's", log.look(4), 50);
+        six(log, 1);
+        six(log, 2);
+        fillSegment(log, 0);
+        CHECK.due("what was to be saved when the segment was closed", log.look(4), 62);
+    }
+
+    private static void lookArmed() {
+        UnitLog log = new UnitLog(4);
+        CHECK.due("never", log.look(5), -1);
+        log.arm(21);
+        CHECK.due("21", log.look(5), 21);
+        log.checkpoint();
+        CHECK.due("20 fewer", log.look(5), 1);
+        three(log, 0);
+        log.flush();
+        CHECK.due("used up", log.look(5), 0);
+        log.recover();
+        CHECK.due("recovered", log.look(5), -1);
+        log.arm(0);
+        CHECK.due("0", log.look(5), 0);
+        log.disarm();
+        CHECK.due("disarmed", log.look(5), -1);
+    }
+
+    private static void lookDown() {
+        UnitLog log = new UnitLog(4);
+        CHECK.due("new", log.look(6), 0);
+        log.crash();
+        CHECK.due("crashed", log.look(6), 1);
+        log.recover();
+        CHECK.due("recovered", log.look(6), 0);
+        log.arm(19);
+        CHECK.due("armed", log.look(6), 0);
+        log.checkpoint();
+        CHECK.due("failed", log.look(6), 1);
+    }
+
+    private static void lookAnother() {
+        UnitLog log = new UnitLog(4);
+        int[] others = {-1, 7, 8, Integer.MIN_VALUE, Integer.MAX_VALUE};
+        for (int what : others) {
             CHECK.due("look(" + what + ")", log.look(what), BAD);
         }
-        plain(log, 0);
-        log.flush();
-        zeros(log, 1);
-        log.trim(0);
-        looks(log, "at work", 11, 6, 3, 0, 6);
-        log.arm(40);
-        log.checkpoint();
-        looks(log, "checkpoint", 11, 11, 3, 1, 31);
-        CHECK.due("armed", log.look(5), 15);
-        CHECK.due("not down", log.look(6), 0);
         log.crash();
-        looks(log, "down", DOWN, DOWN, DOWN, DOWN, 31);
-        CHECK.due("armed", log.look(5), 15);
-        CHECK.due("down", log.look(6), 1);
-        for (int what : wrong) {
+        for (int what : others) {
             CHECK.due("down: look(" + what + ")", log.look(what), BAD);
         }
-    }
-
-    private static void whileDown() {
-        UnitLog log = new UnitLog(4);
-        plain(log, 0);
-        log.crash();
-        int[] blocks = {0, 1, -1, 16};
-        for (int block : blocks) {
-            CHECK.due("down: write", plain(log, block), DOWN);
-            CHECK.due("down: trim", log.trim(block), DOWN);
-            CHECK.due("down: read", log.read(block, 0), 0);
-            CHECK.due("down: packed", log.packed(block, -1), DOWN);
-            CHECK.due("down: packed", log.packed(block, 99), DOWN);
-            CHECK.due("down: place", log.place(block), DOWN);
-            CHECK.due("down: live", log.live(block), DOWN);
-            CHECK.due("down: segment", log.segment(block), DOWN);
-        }
-        CHECK.due("down: flush", log.flush(), DOWN);
-        CHECK.due("down: checkpoint", log.checkpoint(), DOWN);
-        CHECK.due("down: clean", log.clean(), DOWN);
-        CHECK.due("down: arm", log.arm(1), false);
-        CHECK.due("down: arm", log.arm(-1), false);
-        CHECK.due("down: disarm", log.disarm(), false);
-        CHECK.due("down: crash", log.crash(), false);
-        CHECK.due("down: written", log.look(4), 0);
-        CHECK.due("down: armed", log.look(5), -1);
-        CHECK.due("up", log.recover(), 0);
-        looks(log, "up", 0, 0, 0, 1, 20);
     }
 }
