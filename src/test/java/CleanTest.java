@@ -11,10 +11,10 @@ public final class CleanTest extends LogSteps {
         sentence("9: how many records were appended", CleanTest::howMany);
         sentence("9: DOWN", CleanTest::whileDown);
         sentence("9: NONE: no segment is closed", CleanTest::noneClosed);
-        sentence("9: ROOM: these records wouldn't have room", CleanTest::withoutRoom);
+        sentence("9: ROOM, ..: these records wouldn't have room", CleanTest::withoutRoom);
         sentence("9: and nothing is done", CleanTest::nothingIsDone);
         sentence("9: DOWN, if the store goes down", CleanTest::goesDown);
-        sentence("9: DOWN, if the store goes down opening a segment", CleanTest::goesDownOpening);
+        sentence("9: DOWN, if the store goes down", CleanTest::goesDownOpening);
         CHECK.end();
     }
 
@@ -97,6 +97,9 @@ public final class CleanTest extends LogSteps {
         CHECK.due("block 0", log.place(0), 19);
         absent(log, "trimmed", 1, 2);
         looks(log, "one record", 6, 6, 8, 2, 16 + 3 + 20 + 3 + 20);
+        log.crash();
+        CHECK.due("the TRIM records are not needed", log.recover(), 0);
+        absent(log, "trimmed", 1, 2);
 
         // The same bytes in another segment: the record here is not the latest one.
         log = new UnitLog(4);

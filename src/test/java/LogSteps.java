@@ -8,7 +8,7 @@ abstract class LogSteps {
     static final int FREE = 0;
     static final int OPEN = 1;
     static final int CLOSED = 2;
-    static final int[] NO_BLOCKS = {-1, 16, Integer.MIN_VALUE, Integer.MAX_VALUE};
+    static final int[] NO_BLOCKS = {-1, 16, -2, 17, -16, 32, 256, Integer.MIN_VALUE, Integer.MAX_VALUE};
     // No three bytes of it stand twice: a STORE record of these takes 6 units.
     static final long PLAIN_HIGH = 0x0001020304050607L;
     static final long PLAIN_LOW = 0x08090a0b0c0d0e0fL;

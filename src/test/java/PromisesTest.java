@@ -1,6 +1,6 @@
-/** Promises 1 to 8 and 10 to 16: each sentence has a test of its own; CleanTest has promise 9. */
+/** Promises 1 to 8 and 10 to 16: each sentence has a test of its own ('..': words left out); CleanTest has promise 9. */
 public final class PromisesTest extends LogSteps {
-    private static final int[] NO_SEGMENTS = {-1, 4, 8, Integer.MIN_VALUE, Integer.MAX_VALUE};
+    private static final int[] NO_SEGMENTS = {-1, 4, -2, 5, -4, 8, 16, Integer.MIN_VALUE, Integer.MAX_VALUE};
 
     public static void main(String[] args) {
         newObject();
@@ -32,9 +32,9 @@ public final class PromisesTest extends LogSteps {
         sentence("2: DOWN", PromisesTest::writeWhileDown);
         sentence("2: BAD: block isn't 0 .. 15", PromisesTest::writeBadBlock);
         sentence("2: ROOM: it needs more than 16 - FILL units", PromisesTest::writeNeedsMore);
-        sentence("2: and only one segment is free", PromisesTest::writeWithOneFree);
+        sentence("2: and only one segment, .. is free", PromisesTest::writeWithOneFree);
         sentence("2: or none, is free", PromisesTest::writeWithNoneFree);
-        sentence("2: ROOM is a refusal", PromisesTest::writeRefusedDoesNothing);
+        sentence("2: ROOM", PromisesTest::writeRefusedDoesNothing);
         sentence("2: DOWN, if the store goes down", PromisesTest::writeGoesDown);
     }
 
@@ -50,9 +50,9 @@ public final class PromisesTest extends LogSteps {
     private static void readPackedPlace() {
         sentence("4: Bytes 0 .. 7 (half 0) or 8 .. 15 (half 1) of a block, the first one highest", PromisesTest::readHalves);
         sentence("4: 0 if it is absent", PromisesTest::readAbsent);
-        sentence("4: 0 if DOWN", PromisesTest::readWhileDown);
-        sentence("4: 0 if block isn't one", PromisesTest::readBadBlock);
-        sentence("4: 0 if half isn't one", PromisesTest::readBadHalf);
+        sentence("4: 0 if .. DOWN", PromisesTest::readWhileDown);
+        sentence("4: 0 if .. block .. isn't one", PromisesTest::readBadBlock);
+        sentence("4: 0 if .. half isn't one", PromisesTest::readBadHalf);
         sentence("5: Byte k (from 0) of the stored form of a block: 0 .. 255", PromisesTest::packedBytes);
         sentence("5: with k = -1 how many it has", PromisesTest::packedHowMany);
         sentence("5: DOWN", PromisesTest::packedWhileDown);
@@ -482,7 +482,7 @@ public final class PromisesTest extends LogSteps {
     private static void readBadHalf() {
         UnitLog log = new UnitLog(4);
         log.write(0, -1, -1);
-        int[] halves = {-1, 2, 3, Integer.MIN_VALUE, Integer.MAX_VALUE};
+        int[] halves = {-1, 2, -2, 3, Integer.MIN_VALUE, Integer.MAX_VALUE};
         for (int half : halves) {
             CHECK.due("read(0, " + half + ")", log.read(0, half), 0);
         }
@@ -727,7 +727,7 @@ public final class PromisesTest extends LogSteps {
 
     private static void armBadNumber() {
         UnitLog log = new UnitLog(4);
-        int[] numbers = {-1, 10001, Integer.MIN_VALUE, Integer.MAX_VALUE};
+        int[] numbers = {-1, 10001, -2, 10002, 65536, Integer.MIN_VALUE, Integer.MAX_VALUE};
         for (int n : numbers) {
             CHECK.due("arm(" + n + ")", log.arm(n), false);
             CHECK.due("not armed", log.look(5), -1);
@@ -1078,7 +1078,7 @@ public final class PromisesTest extends LogSteps {
 
     private static void lookAnother() {
         UnitLog log = new UnitLog(4);
-        int[] others = {-1, 7, 8, Integer.MIN_VALUE, Integer.MAX_VALUE};
+        int[] others = {-1, 7, -2, 8, 16, Integer.MIN_VALUE, Integer.MAX_VALUE};
         for (int what : others) {
             CHECK.due("look(" + what + ")", log.look(what), BAD);
         }

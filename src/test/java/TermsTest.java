@@ -493,6 +493,17 @@ public final class TermsTest extends LogSteps {
         states(log, "closed", CLOSED, OPEN, FREE, FREE);
         log.crash();
         CHECK.due("saved, but for the one that opened the next segment", log.recover(), 2);
+
+        log = new UnitLog(4);
+        for (int n = 0; n < 3; n++) {
+            three(log, 0);
+            log.trim(0);
+        }
+        three(log, 1);
+        lives(log, "nothing lives in it", 0, 3, 0, 0);
+        states(log, "closed all the same", CLOSED, OPEN, FREE, FREE);
+        CHECK.due("the cleaner takes it", log.clean(), 0);
+        states(log, "cleaned", FREE, OPEN, FREE, FREE);
     }
 
     private static void lowestFree() {
